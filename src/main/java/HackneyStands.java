@@ -10,6 +10,9 @@ public final class HackneyStands {
     private static final int MINUTES = 720000;
     private static final int MINUTES_A_DAY = 1440;
     private static final int DAYS = 10000;
+    private static final int DAYS_A_WEEK = 7;
+    private static final int DAYS_A_MONTH = 30;
+    private static final int DAYS_A_YEAR = 360;
     private static final int YARDS_A_MINUTE = 110;
     private static final int YEARS = 2000;
     private static final int HOLDERS = 50;
@@ -163,7 +166,7 @@ public final class HackneyStands {
             case 2: return fleet.coaches.get(coach, Fleet.STRENGTH);
             case 3: return fleet.coaches.get(coach, Fleet.ARRIVAL);
             case 4: return fleet.coaches.get(coach, Fleet.STAND);
-            case 5: return fleet.holderOf(coach, today() / 360);
+            case 5: return fleet.holderOf(coach, thisYear());
             case 6: return fleet.coaches.get(coach, Fleet.LOOKED);
             case 7: return trips.tripsOf(coach);
             case 8: return earned(coach);
@@ -408,6 +411,10 @@ public final class HackneyStands {
         return now / MINUTES_A_DAY;
     }
 
+    private int thisYear() {
+        return today() / DAYS_A_YEAR;
+    }
+
     private int dayOf(int trip) {
         return trips.kept.get(trip, Trips.MINUTE) / MINUTES_A_DAY;
     }
@@ -427,7 +434,7 @@ public final class HackneyStands {
         return city.isCorner(from) && city.isCorner(to) && from != to && isLoad(what / 1000, what % 1000);
     }
 
-    /** Writes what is asked for into the draft, and measures all ways to the caller; false without a way of the trip. */
+    /** Drafts what is asked for, and measures all ways to the caller; false if the trip has no way. */
     private boolean draftTrip(int from, int to, int what) {
         // A row of streets may be gone either way, so that the ways to the caller tell the trip's length, too.
         city.measure(from, now);
@@ -488,7 +495,7 @@ public final class HackneyStands {
         int strength = fleet.coaches.get(coach, Fleet.STRENGTH);
         trips.draftCoach(coach, stand, strength);
         int drives = trips.draftTimes(timeOf(yardsToCaller(stand)), timeOf(trips.draft.get(0, Trips.YARDS)));
-        if (fleet.holderOf(coach, today() / 360) < 0) {
+        if (fleet.holderOf(coach, thisYear()) < 0) {
             return 1;
         }
         if (fleet.coaches.get(coach, Fleet.LOOKED) < today()) {
@@ -516,7 +523,7 @@ public final class HackneyStands {
         int waiting = table.get(trip, Trips.WAITING);
         int called = table.get(trip, Trips.MINUTE);
         book.tellRide(yards, timeOf(yards) + waiting, waiting);
-        book.tellTime(table.get(trip, Trips.NIGHT), called / MINUTES_A_DAY % 7, called % MINUTES_A_DAY / 60);
+        book.tellTime(table.get(trip, Trips.NIGHT), called / MINUTES_A_DAY % DAYS_A_WEEK, called % MINUTES_A_DAY / 60);
         book.tellLoad(table.get(trip, Trips.PERSONS), table.get(trip, Trips.BAD), table.get(trip, Trips.STRENGTH));
     }
 
@@ -559,7 +566,7 @@ public final class HackneyStands {
         int b = complaints.made.get(other, Complaints.TRIP);
         return trips.isSame(a, b, Trips.NIGHT) && trips.isSame(a, b, Trips.PERSONS)
             && trips.kept.get(a, Trips.YARDS) / 1000 == trips.kept.get(b, Trips.YARDS) / 1000
-            && dayOf(a) % 7 == dayOf(b) % 7;
+            && dayOf(a) % DAYS_A_WEEK == dayOf(b) % DAYS_A_WEEK;
     }
 
     /** How many like cases a complaint has, or how many of these were judged over. */
@@ -672,8 +679,9 @@ public final class HackneyStands {
         private static final int END_A = 0;
         private static final int END_B = 1;
         private static final int COST = 2;
-        private static final int SPAN_COUNT = 3;
-        private static final int SPAN_FIRST = 4;
+        private static final int OPEN = 3;
+        private static final int SPAN_COUNT = 4;
+        private static final int SPAN_FIRST = 5;
 
         // Yards weigh more than all bad streets that a way can have (fewer than there are corners).
         private static final int COST_OF_YARD = 100;
@@ -683,7 +691,6 @@ public final class HackneyStands {
         private final Table streets = new Table(STREETS, SPAN_FIRST + 2 * SPANS);
         private final int[] rise = new int[MONTHS];
         private final int[] set = new int[MONTHS];
-        private final boolean[] open = new boolean[STREETS];
         private final int[] costs = new int[CORNERS];
         private final int[] steps = new int[CORNERS];
         private int stepCount;
@@ -732,21 +739,26 @@ public final class HackneyStands {
         }
 
         private int nightIn(int minute) {
-            int month = Math.floorMod(minute / MINUTES_A_DAY / 30, MONTHS);
+            int month = Math.floorMod(minute / MINUTES_A_DAY / DAYS_A_MONTH, MONTHS);
             int place = minute % MINUTES_A_DAY;
             return place < rise[month] || place >= set[month] ? 1 : 0;
         }
 
-        private boolean isOpen(int street, int minute) {
+        private boolean isShut(int street, int minute) {
             int spans = streets.get(street, SPAN_COUNT);
             for (int i = 0; i < spans; i++) {
                 int from = streets.get(street, SPAN_FIRST + 2 * i);
                 int to = streets.get(street, SPAN_FIRST + 2 * i + 1);
                 if (minute >= from && minute < to) {
-                    return false;
+                    return true;
                 }
             }
-            return true;
+            return false;
+        }
+
+        /** Whether a street is open at the minute measured last. */
+        private boolean isOpen(int street) {
+            return streets.get(street, OPEN) == 1;
         }
 
         private int costFrom(int corner) {
@@ -756,7 +768,7 @@ public final class HackneyStands {
         /** Finds the cost of the way from each corner to a target at a minute. */
         private void measure(int target, int minute) {
             for (int street = 0; street < streets.rows; street++) {
-                open[street] = isOpen(street, minute);
+                streets.set(street, OPEN, isShut(street, minute) ? 0 : 1);
             }
             for (int corner = 0; corner < CORNERS; corner++) {
                 costs[corner] = corner == target ? 0 : NO_COST;
@@ -771,7 +783,7 @@ public final class HackneyStands {
         private boolean lowerAll() {
             boolean isLower = false;
             for (int street = 0; street < streets.rows; street++) {
-                if (open[street]) {
+                if (isOpen(street)) {
                     int a = streets.get(street, END_A);
                     int b = streets.get(street, END_B);
                     int cost = streets.get(street, COST);
@@ -818,7 +830,7 @@ public final class HackneyStands {
                 int a = streets.get(street, END_A);
                 int b = streets.get(street, END_B);
                 int next = a == at ? b : a;
-                boolean isOn = open[street] && (a == at || b == at)
+                boolean isOn = isOpen(street) && (a == at || b == at)
                     && costFrom(next) + streets.get(street, COST) == costFrom(at);
                 if (isOn && (least < 0 || next < least)) {
                     least = next;
@@ -1085,7 +1097,7 @@ public final class HackneyStands {
         }
     }
 
-    /** Reads the tape as the text of a law, by the grammar's own letters; where it stops at a fault, that is its place. */
+    /** Reads the tape as the text of a law, by the grammar's own letters; at a fault it stops in its place. */
     private static final class LawReader {
         private static final int MOST_OPEN = 12;
         private static final int MOST_DIGITS = 5;

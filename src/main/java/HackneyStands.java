@@ -184,7 +184,7 @@ public final class HackneyStands {
         if (n < 1 || n > 4) {
             return NONE;
         }
-        return book.addBytes(n, v);
+        return book.reader.addBytes(n, v);
     }
 
     public int law(int kind, int from) {
@@ -385,7 +385,7 @@ public final class HackneyStands {
             case 6: return trips.refusals.rows;
             case 7: return complaints.made.rows;
             case 8: return now;
-            case 9: return book.tapeLength;
+            case 9: return book.reader.length;
             case 10: return things.losses.rows;
             case 11: return things.finds.rows;
             case 12: return fleet.licences.rows;
@@ -696,8 +696,9 @@ public final class HackneyStands {
         private int stepCount;
 
         private City() {
-            Arrays.fill(rise, 360);
-            Arrays.fill(set, 1080);
+            for (int month = 0; month < MONTHS; month++) {
+                tellSun(month, 360, 1080);
+            }
         }
 
         private boolean isCorner(int corner) {
@@ -1097,33 +1098,39 @@ public final class HackneyStands {
         }
     }
 
-    /** Reads the tape as the text of a law, by the grammar's own letters; at a fault it stops in its place. */
+    /** The tape, read as the text of a law by the grammar's own letters; at a fault the reader stops in its place. */
     private static final class LawReader {
+        private static final int TAPE = 160;
         private static final int MOST_OPEN = 12;
         private static final int MOST_DIGITS = 5;
         private static final int END = -1;
 
-        private final int[] tape;
-        private final int[] commands;
+        private final int[] tape = new int[TAPE];
+        // No byte leaves more than one command.
+        private final int[] commands = new int[TAPE];
         private int length;
         private int place;
         private int commandCount;
 
-        private LawReader(int[] tape) {
-            this.tape = tape;
-            // No byte leaves more than one command.
-            this.commands = new int[tape.length];
+        private int addBytes(int n, int lowestFirst) {
+            if (n < 0 || length + n > TAPE) {
+                return FULL;
+            }
+            for (int i = 0; i < n; i++) {
+                tape[length + i] = lowestFirst >> 8 * i & 255;
+            }
+            length += n;
+            return length;
         }
 
-        private boolean isLaw(int bytes) {
-            length = bytes;
+        private boolean isLaw() {
             place = 0;
             commandCount = 0;
             return readE(0) && place == length;
         }
 
         private int sign() {
-            return place >= 0 && place < length && place < tape.length ? tape[place] : END;
+            return place >= 0 && place < length && place < TAPE ? tape[place] : END;
         }
 
         /** A new command: its number; its operand may be told later. */
@@ -1256,9 +1263,8 @@ public final class HackneyStands {
         }
     }
 
-    /** The tape, the laws, and the names as they were told last. */
+    /** The laws, and the names as they were told last. */
     private static final class LawBook {
-        private static final int TAPE = 160;
         private static final int LAWS = 40;
         private static final int BY_DISTANCE = 0;
         private static final int BY_TIME = 1;
@@ -1268,13 +1274,11 @@ public final class HackneyStands {
 
         private static final String NAMES = "ytwndhpbs";
 
-        private final int[] tape = new int[TAPE];
-        private int tapeLength;
-        private final LawReader reader = new LawReader(tape);
+        private final LawReader reader = new LawReader();
         private final Law[] laws = new Law[LAWS];
         private int lawCount;
         private final int[] names = new int[9];
-        private final int[] stack = new int[TAPE];
+        private final int[] stack = new int[LawReader.TAPE];
 
         private static int nameOf(int sign) {
             for (int i = 0; i < NAMES.length(); i++) {
@@ -1285,23 +1289,12 @@ public final class HackneyStands {
             return NONE;
         }
 
-        private int addBytes(int n, int lowestFirst) {
-            if (n < 0 || tapeLength + n > TAPE) {
-                return FULL;
-            }
-            for (int i = 0; i < n; i++) {
-                tape[tapeLength + i] = lowestFirst >> 8 * i & 255;
-            }
-            tapeLength += n;
-            return tapeLength;
-        }
-
         private int makeLaw(int kind, int from, int made) {
             if (lawCount >= LAWS) {
                 return FULL;
             }
-            boolean isLaw = reader.isLaw(tapeLength);
-            tapeLength = 0;
+            boolean isLaw = reader.isLaw();
+            reader.length = 0;
             if (!isLaw) {
                 return FIRST_FAULT - reader.place;
             }

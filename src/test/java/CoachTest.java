@@ -79,6 +79,7 @@ public final class CoachTest {
         CHECK.due("licence(0, 0, 50)", x.licence(0, 0, 50), -1);
         CHECK.due("licence(1, 0, 49)", x.licence(1, 0, 49), 1);
         CHECK.due("licence(0, 1, 0)", x.licence(0, 1, 0), 1);
+        CHECK.due("licence(0, 1, 5), there is one of person 0", x.licence(0, 1, 5), -4);
         CHECK.due("licence(0, 1999, 7)", x.licence(0, 1999, 7), 1);
         CHECK.due("about(0, 5)", x.about(0, 5), 49);
         CHECK.due("count(12)", x.count(12), 4);
@@ -242,6 +243,14 @@ public final class CoachTest {
         checkCoach(x, 1, GOES, 0, 6, -1);
         x.minutes(1);
         checkCoach(x, 1, RESTS, 0, -1, -1);
+        x.stand(0, 1);
+        x.coach(3, 1);
+        CHECK.due("go(2, 1)", x.go(2, 1), 3);
+        x.minutes(3);
+        CHECK.due("go(2, -1)", x.go(2, -1), 3);
+        checkCoach(x, 2, GOES, 1, 12, -1);
+        x.minutes(3);
+        checkCoach(x, 2, RESTS, 1, -1, -1);
     }
 
     private static void abouts() {
@@ -250,7 +259,6 @@ public final class CoachTest {
         x.stand(0, 1);
         Setup.readyCoach(x, 7, 0);
         x.coach(8, 2);
-        Setup.law(x, 0, 0, "p*100+y");
         x.go(0, 0);
         CHECK.due("about(0, -1)", x.about(0, -1), -9);
         CHECK.due("about(0, 9)", x.about(0, 9), -9);
@@ -261,6 +269,10 @@ public final class CoachTest {
         CHECK.due("call(1, 2, 3007)", x.call(1, 2, 3007), 0);
         checkCoach(x, 0, DRIVES, 2, 9, -1);
         CHECK.due("about(0, 7)", x.about(0, 7), 1);
+        CHECK.due("about(0, 8) without a fare", x.about(0, 8), 0);
+        Setup.law(x, 0, 0, "0");
+        CHECK.due("about(0, 8) of a fare of 0", x.about(0, 8), 0);
+        Setup.law(x, 0, 0, "p*100+y");
         CHECK.due("about(0, 8)", x.about(0, 8), 410);
         Setup.pass(x, 1440);
         checkCoach(x, 0, WAITS, 2, -1, -1);

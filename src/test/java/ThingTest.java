@@ -326,5 +326,12 @@ public final class ThingTest {
         x.found(0, 0);
         CHECK.due("joined(0)", x.joined(0), -9);
         CHECK.due("fits(0)", x.fits(0), 2);
+        HackneyStands y = twoCoaches();
+        y.call(0, 1, 1000);
+        y.found(0, 0);
+        y.lost(0, UNKNOWN, 0, 0);
+        CHECK.due("joined(0)", y.joined(0), 0);
+        y.found(0, 0);
+        CHECK.due("joined(0), found 0 and 1 fit", y.joined(0), -9);
     }
 }

@@ -209,6 +209,20 @@ public final class TripTest {
         y.go(0, 0);
         CHECK.due("why, 326 minutes", y.why(0, 0, 5, 1235), 0);
         CHECK.due("why, 327 minutes", y.why(0, 0, 5, 1236), 3);
+        // Just as many as are wanted, and one less: to a corner that is a minute away, and back.
+        y.corner();
+        y.street(11, 1, 0);
+        y.stand(11, 1);
+        y.go(0, 1);
+        y.minutes(1);
+        y.go(0, 0);
+        y.minutes(1);
+        CHECK.due("about(0, 2)", y.about(0, 2), 998);
+        CHECK.due("why, 326 minutes of 998", y.why(0, 0, 5, 1235), 0);
+        y.go(0, 1);
+        y.minutes(1);
+        CHECK.due("why, 326 minutes of 997", y.why(0, 0, 5, 1234), 3);
+        CHECK.due("why, 325 minutes of 997", y.why(0, 0, 5, 1233), 0);
     }
 
     private static void whyOfYear() {
@@ -331,6 +345,13 @@ public final class TripTest {
         Setup.readyCoach(x, 1, 0);
         x.go(0, 0);
         Setup.pass(x, 1440 * 33 + 1105);
+        int[] minutes = {1439, 1440, 1499, 1500, 2159, 2160};
+        for (int i = 0; i < minutes.length; i++) {
+            HackneyStands y = readyCity(2);
+            Setup.pass(y, minutes[i]);
+            Setup.law(y, 2, 0, "d*100+h=" + (minutes[i] / 1440 * 100 + minutes[i] % 1440 / 60));
+            CHECK.due("why in minute " + minutes[i], y.why(0, 0, 1, 1000), 4);
+        }
         String[] names = {"y=234", "t=48", "w=45", "n=1", "p=3", "b=1", "d=5", "h=18", "s=1000"};
         for (String name : names) {
             Setup.law(x, 2, 0, name);

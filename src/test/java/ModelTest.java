@@ -118,7 +118,9 @@ public final class ModelTest {
 
     private void step() {
         int kind = chance.nextInt(100);
-        if (kind < 10) {
+        if (kind < 2) {
+            extreme();
+        } else if (kind < 10) {
             go();
         } else if (kind < 22) {
             call();
@@ -297,6 +299,53 @@ public final class ModelTest {
         int refusal = about(0, m.count(6) - 1);
         for (int what = -1; what <= 4; what++) {
             same("refusal(" + refusal + ", " + what + ")", x.refusal(refusal, what), m.refusal(refusal, what));
+        }
+    }
+
+    private static final int[] EXTREMES = {
+        Integer.MIN_VALUE, Integer.MIN_VALUE + 1, -720000, -10000, -1000, -100, -1, 0, 1, 2, 3, 99, 100, 101, 1000,
+        1001, 1440, 9999, 10000, 10001, 14640, 719999, 720000, 1000000, Integer.MAX_VALUE - 1, Integer.MAX_VALUE,
+    };
+
+    /** A call with the least and the most that an int can be, and much between. */
+    private void extreme() {
+        int a = oneOf(EXTREMES);
+        int b = oneOf(EXTREMES);
+        int c = oneOf(EXTREMES);
+        int d = oneOf(EXTREMES);
+        int e = oneOf(EXTREMES);
+        String told = " of " + a + ", " + b + ", " + c + ", " + d + ", " + e;
+        switch (chance.nextInt(30)) {
+            case 0: same("street" + told, x.street(a, b, c), m.street(a, b, c)); break;
+            case 1: same("shut" + told, x.shut(a, b, c), m.shut(a, b, c)); break;
+            case 2: same("sun" + told, x.sun(a, b, c), m.sun(a, b, c)); break;
+            case 3: same("way" + told, x.way(a, b, c), m.way(a, b, c)); break;
+            case 4: same("step" + told, x.step(a), m.step(a)); break;
+            case 5: same("night" + told, x.night(a), m.night(a)); break;
+            case 6: same("coach" + told, x.coach(a, b), m.coach(a, b)); break;
+            case 7: same("licence" + told, x.licence(a, b, c), m.licence(a, b, c)); break;
+            case 8: same("look" + told, x.look(a, b), m.look(a, b)); break;
+            case 9: same("stand" + told, x.stand(a, b), m.stand(a, b)); break;
+            case 10: same("go" + told, x.go(a, b), m.go(a, b)); break;
+            case 11: same("about" + told, x.about(a, b), m.about(a, b)); break;
+            case 12: same("turn" + told, x.turn(a, b), m.turn(a, b)); break;
+            case 13: same("feed" + told, x.feed(a, b), m.feed(a, b)); break;
+            case 14: same("law" + told, x.law(a, b), m.law(a, b)); break;
+            case 15: same("inForce" + told, x.inForce(a, b, c), m.inForce(a, b, c)); break;
+            case 16: same("says" + told, x.says(a, b, c, d, e), m.says(a, b, c, d, e)); break;
+            case 17: same("call" + told, x.call(a, b, c), m.call(a, b, c)); break;
+            case 18: same("why" + told, x.why(a, b, c, d), m.why(a, b, c, d)); break;
+            case 19: same("minutes" + told, x.minutes(a), m.minutes(a)); break;
+            case 20: same("trip" + told, x.trip(a, b), m.trip(a, b)); break;
+            case 21: same("due" + told, x.due(a, b, c), m.due(a, b, c)); break;
+            case 22: same("refusal" + told, x.refusal(a, b), m.refusal(a, b)); break;
+            case 23: same("complain" + told, x.complain(a, b), m.complain(a, b)); break;
+            case 24: same("judged" + told, x.judged(a, b), m.judged(a, b)); break;
+            case 25: same("lost" + told, x.lost(a, b, c, d), m.lost(a, b, c, d)); break;
+            case 26: same("found" + told, x.found(a, b), m.found(a, b)); break;
+            case 27: same("joined, fits" + told, x.joined(a) + x.fits(b), m.joined(a) + m.fits(b)); break;
+            case 28: same("tried" + told, x.tried(a, b, c), m.tried(a, b, c)); break;
+            default: same("count" + told, x.count(a), m.count(a)); break;
         }
     }
 

@@ -656,6 +656,7 @@ public final class HackneyStands {
             return rows - 1;
         }
 
+        // get and set call nothing, since LANGUAGE.md bounds how deep calls go, and they stand at the bottom of most.
         private int get(int row, int column) {
             boolean isCell = row >= 0 && row < rows && column >= 0 && column < width;
             return isCell ? cells[row * width + column] : NONE;

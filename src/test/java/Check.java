@@ -2,11 +2,22 @@
 final class Check {
     private int right;
     private int wrong;
+    private int before;
     private String part = "";
 
-    /** Tells which promise the next checks are for. */
+    /** Tells what the next checks are for. */
     void promise(String name) {
         part = name;
+        before = right + wrong;
+    }
+
+    /**
+     * Tells which words of the document the next checks hold: of a promise ("Promise 3"), or ahead of them all ("Terms").
+     * SentenceTest looks whether they stand there.
+     */
+    void sentence(String where, String words) {
+        endSentence();
+        promise(where + ", '" + words + "'");
     }
 
     void due(String call, long got, long want) {
@@ -20,9 +31,17 @@ final class Check {
 
     /** Ends the program, with exit code 1 if a check went wrong or none was made. */
     void end() {
+        endSentence();
         System.out.println(right + " checks right, " + wrong + " wrong");
         if (wrong > 0 || right == 0) {
             System.exit(1);
+        }
+    }
+
+    private void endSentence() {
+        if (!part.isEmpty() && right + wrong == before) {
+            wrong++;
+            System.out.println(part + ": no check was made");
         }
     }
 }

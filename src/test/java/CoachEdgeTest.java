@@ -531,7 +531,7 @@ public final class CoachEdgeTest {
         CHECK.sentence("Promise 22", "NONE (also beyond 719999).");
         Run run = run().passTo(718560).refuses("minutes(1440)", -1).due("minutes(1438)", 719998);
         run.refuses("minutes(2)", -1).refuses("minutes(1440)", -1).refuses("minutes(0)", -1).due("minutes(1)", 719999);
-        CHECK.sentence("Terms", "1 MINUTE is a count, 0 at first, at most 719999");
+        CHECK.sentence("Terms", "MINUTE is a count, 0 at first, at most 719999");
         run.refuses("minutes(1)", -1).refuses("minutes(1440)", -1).due("count(8)", 719999);
         run.due("night(719999)", 1).due("corner()", 0).due("coach(1, 0)", 0).refuses("look(0, 498)", -9);
         run().due("count(8)", 0).due("minutes(1)", 1);

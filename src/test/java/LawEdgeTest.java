@@ -103,7 +103,7 @@ public final class LawEdgeTest {
     }
 
     private static void lawNumbers() {
-        CHECK.sentence("Terms", "3 A LAW is a TEXT of a KIND: 0 FARE by distance, 1 FARE by time, 2 REFUSAL.");
+        CHECK.sentence("Terms", "A LAW is a TEXT of a KIND: 0 FARE by distance, 1 FARE by time, 2 REFUSAL.");
         Run run = run().make("feed(1, 49)").refuses("law(-1, 0)", -1).refuses("law(3, 0)", -1);
         run.refuses("law(" + MIN + ", 0)", -1).refuses("law(" + MAX + ", 0)", -1).due("law(2, 0)", 0);
         run.make("feed(1, 50)").due("law(1, 0)", 1).make("feed(1, 51)").due("law(0, 0)", 2);

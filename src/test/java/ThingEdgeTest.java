@@ -200,8 +200,8 @@ public final class ThingEdgeTest {
     }
 
     private static void likeOver() {
-        CHECK.sentence("Promise 27", "3 how many LIKE CASES, 4 the latest of these (-1), 5 how many of them were judged OVER more "
-            + "than 0.");
+        CHECK.sentence("Promise 27", "Of a COMPLAINT: 0 TRIP, 1 PAID, 2 OVER, 3 how many LIKE CASES, 4 the latest of these (-1), "
+            + "5 how many of them were judged OVER more than 0.");
         Run run = run().law(0, "10");
         int[] paid = {9, 10, 11, 12, 20, 0};
         int[] over = {0, 0, 0, 1, 2, 3};

@@ -133,7 +133,7 @@ public final class TripEdgeTest {
     }
 
     private static void callAnswersInOrder() {
-        CHECK.sentence("Terms", "6 Answers, the first that a call names");
+        CHECK.sentence("Terms", "Answers, the first that a call names");
         // What is not as told for several reasons: NONE, then NO_WAY, then STATE.
         Run run = run().make("corner()").refuses("call(0, 2, 0)", -1).refuses("call(0, 2, 1000)", -5);
         run.refuses("call(0, 1, 1000)", -3).refuses("why(0, 0, 2, 1000)", -1).ready(0, 1, 0).refuses("why(0, 0, 2, 1000)", -1);
@@ -417,7 +417,7 @@ public final class TripEdgeTest {
     }
 
     private static void lastMinute() {
-        CHECK.sentence("Terms", "1 MINUTE is a count, 0 at first, at most 719999");
+        CHECK.sentence("Terms", "MINUTE is a count, 0 at first, at most 719999");
         // A trip that is called for in the last minute ends behind it, and so is never at its end.
         Run run = run().make("coach(1, 0)", "licence(0, 1, 0)", "look(0, 499)", "go(0, 0)").passTo(719999);
         run.due("call(0, 1, 1240)", 0).due("trip(0, 5)", 720240).due("about(0, 3)", 720240);

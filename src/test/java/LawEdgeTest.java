@@ -376,6 +376,12 @@ public final class LawEdgeTest {
         checkWorth("2*".repeat(20) + "0+" + "1+".repeat(58) + "30", 88);
         checkWorth("0?1:".repeat(12) + "1+".repeat(55) + "10", 65);
         run().tape("s+".repeat(79) + "10").due("law(0, 0)", 0).due("says(0, 0, 0, 0, 0)", 79010);
+        // As long ones one behind another, and behind one with a fault.
+        Run run = run();
+        for (int i = 0; i < 8; i++) {
+            run.tape("1+".repeat(79) + "1" + i).due("law(0, 0)", i).due("says(" + i + ", 0, 0, 0, 0)", 89 + i);
+            run.tape("(9+").due("law(0, 0)", -103).due("says(0, 0, 0, 0, 0)", 89);
+        }
     }
 
     private static void wrapping() {

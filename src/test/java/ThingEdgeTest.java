@@ -423,6 +423,9 @@ public final class ThingEdgeTest {
         checkFits(run, UNKNOWN, 50, 55, 0);
         checkFits(run, UNKNOWN, 10, 40, 1);
         checkFits(run, UNKNOWN, 60, 60, 0);
+        // A trip of the span that is called for when the thing is found already counts as any other.
+        Run later = run().passTo(5).make("found(0, 0)", "lost(0, 14640, 0, 30)", "lost(0, 14640, 0, 9)").due("fits(0)", 0);
+        later.passTo(10).due("fits(0)", 0).due("call(0, 1, 1009)", 0).due("fits(0)", 1).due("fits(1)", 0).due("joined(0)", 0);
         // Of a coach that goes, stands or rests it is none.
         Run none = run().make("go(0, -1)", "found(0, 0)");
         checkFits(none, UNKNOWN, 0, 719999, 0);

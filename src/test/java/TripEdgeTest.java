@@ -561,6 +561,11 @@ public final class TripEdgeTest {
             Run run = runWithCoach().law(0, "h+100").law(2, "1-(h=" + minute / 60 % 24 + ")").passTo(minute);
             run.due("call(0, 1, 1000)", 0).make("minutes(60)").due("due(0, 1, 0)", 100 + minute / 60 % 24);
         }
+        // It begins with the call, though the caller gets in in the next hour, and day.
+        Run far = run().make("stand(1, 1)").ready(0, 7, 1).make("go(0, 1)").law(0, "d*100+h").law(2, "1-(d=0)*(h=23)");
+        far.passTo(DAY - 1).due("why(0, 0, 1, 1000)", 0).due("call(0, 1, 1000)", 0).due("trip(0, 4)", DAY);
+        far.due("due(0, 0, 0)", 23).passTo(2 * DAY).due("due(0, 2, 0)", 23).due("tried(0, -1, 0)", 23);
+        far.due("tried(0, -1, 10001)", 0);
     }
 
     private static void nameRide() {

@@ -210,6 +210,10 @@ public final class TripEdgeTest {
         run.refuses("call(0, 1, 1000)", -3).due("count(6)", 0).make("street(102, 2000, 0)").due("call(0, 1, 1000)", -3);
         run.due("count(6)", 1).make("shut(1, 0, 5)").refuses("call(0, 1, 1000)", -3).passTo(5).due("call(0, 1, 1000)", -3);
         run.due("count(6)", 2);
+        // Of four stands just one has a way: it is asked once.
+        Run once = run().make("corner()", "stand(2, 1)", "stand(2, 1)", "stand(2, 1)").ready(0, 1, 0).ready(1, 2, 2);
+        once.make("go(0, 0)", "go(1, 2)").law(2, "1").due("call(0, 1, 1000)", -3).due("count(6)", 1);
+        once.due("call(0, 1, 1000)", -3).due("count(6)", 2);
     }
 
     private static void firstInTurn() {

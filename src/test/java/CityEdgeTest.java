@@ -294,6 +294,18 @@ public final class CityEdgeTest {
         checkWay(run, "way(4, 0, 0)", 30, 4, 0);
         checkWay(run, "way(4, 3, 0)", 10, 4, 3);
         checkWay(run, "way(3, 0, 0)", 20, 3, 0);
+        // A row that is shut then does not come first, nor is it gone in part.
+        run.make("shut(7, 10, 20)");
+        checkWay(run, "way(0, 4, 9)", 30, 0, 1, 4);
+        checkWay(run, "way(0, 4, 10)", 30, 0, 2, 3, 4);
+        checkWay(run, "way(0, 4, 20)", 30, 0, 1, 4);
+        Run pair = run().corners(4).make("street(1, 50, 0)", "street(2, 50, 0)", "street(103, 50, 0)", "street(203, 50, 0)");
+        pair.make("shut(0, 10, 20)", "shut(2, 30, 40)");
+        checkWay(pair, "way(0, 3, 9)", 100, 0, 1, 3);
+        checkWay(pair, "way(0, 3, 10)", 100, 0, 2, 3);
+        checkWay(pair, "way(0, 3, 39)", 100, 0, 2, 3);
+        checkWay(pair, "way(3, 0, 19)", 100, 3, 2, 0);
+        checkWay(pair, "way(0, 3, 40)", 100, 0, 1, 3);
         // As no street has 0 yards, a row that ends ahead of a like one has fewer yards but for the row of one corner.
         checkWay(run, "way(4, 4, 0)", 0, 4);
     }

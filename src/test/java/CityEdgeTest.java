@@ -235,8 +235,8 @@ public final class CityEdgeTest {
     }
 
     private static void wayOfLeastYards() {
-        CHECK.sentence("Terms", "of all rows of STREETS that are not SHUT then, each going on where the one ahead ended, the "
-            + "one with the least YARDS together");
+        CHECK.sentence("Terms", "WAY between two CORNERS at a MINUTE: of all rows of STREETS that are not SHUT then, each going "
+            + "on where the one ahead ended, the one with the least YARDS together");
         Run run = run().row(4, 100).make("street(3, 301, 0)");
         checkWay(run, "way(0, 3, 0)", 300, 0, 1, 2, 3);
         run.make("street(3, 299, 1)");

@@ -455,9 +455,10 @@ public final class CoachEdgeTest {
     }
 
     private static void about() {
-        CHECK.sentence("Promise 14", "0 its state (0 RESTS, 1 STANDS, 2 GOES, 3 DRIVES, 4 WAITS), 1 its CORNER (GOES, DRIVES: "
-            + "to which it comes), 2 STRENGTH, 3 the MINUTE when it is there (GOES, DRIVES; else -1), 4 its STAND (STANDS; "
-            + "GOES to one; else -1), 5 HOLDER of this YEAR (-1: none), 6 LOOKED AT up to (-1), 7 how many TRIPS");
+        CHECK.sentence("Promise 14", "Of a COACH: 0 its state (0 RESTS, 1 STANDS, 2 GOES, 3 DRIVES, 4 WAITS), 1 its CORNER "
+            + "(GOES, DRIVES: to which it comes), 2 STRENGTH, 3 the MINUTE when it is there (GOES, DRIVES; else -1), 4 its "
+            + "STAND (STANDS; GOES to one; else -1), 5 HOLDER of this YEAR (-1: none), 6 LOOKED AT up to (-1), 7 how many "
+            + "TRIPS");
         Run run = run().row(2, 110).make("stand(0, 1)", "coach(8, 0)");
         int[] first = {0, 0, 1000, -1, -1, -1, -1, 0, 0};
         for (int what = 0; what < first.length; what++) {

@@ -108,7 +108,7 @@ public final class LawEdgeTest {
         run.refuses("law(" + MIN + ", 0)", -1).refuses("law(" + MAX + ", 0)", -1).due("law(2, 0)", 0);
         run.make("feed(1, 50)").due("law(1, 0)", 1).make("feed(1, 51)").due("law(0, 0)", 2);
         run.due("inForce(2, 0, 0)", 0).due("inForce(1, 0, 0)", 1).due("inForce(0, 0, 0)", 2);
-        CHECK.sentence("Promise 17", "in force from a DAY (0 .. 9999) on");
+        CHECK.sentence("Promise 17", "THE TAPE is made a LAW of a KIND, in force from a DAY (0 .. 9999) on");
         run.make("feed(1, 52)").refuses("law(0, -1)", -1).refuses("law(0, 10000)", -1).refuses("law(0, " + MIN + ")", -1);
         run.refuses("law(0, " + MAX + ")", -1).due("law(0, 9999)", 3).due("inForce(0, 9998, 0)", 2);
         run.due("inForce(0, 9999, 0)", 3).make("feed(1, 53)").due("law(0, 0)", 4).due("inForce(0, 0, 0)", 4);

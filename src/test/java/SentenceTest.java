@@ -10,10 +10,11 @@ import java.util.regex.Matcher;
 import java.util.regex.Pattern;
 import java.util.stream.Stream;
 
-/** Whether the words that the tests say they hold stand in the document, and whether each edge it names is among them. */
+/** Whether the words that the tests say they hold stand in the document, and whether each word of it is among them. */
 public final class SentenceTest {
     private static final Pattern TOLD = Pattern.compile(
         "CHECK\\.sentence\\(\"([^\"]*)\",\\s*((?:\"(?:[^\"\\\\]|\\\\.)*\"\\s*\\+?\\s*)+)\\)");
+    private static final Pattern SIGNED = Pattern.compile("\\bsigned\\(\"([^\"]*)\", \"([^\"]*)\"\\)");
     private static final Pattern TEXT = Pattern.compile("\"((?:[^\"\\\\]|\\\\.)*)\"");
     private static final Pattern EDGE = Pattern.compile("\\b(NONE|FULL|STATE|THERE|NO_WAY|NO_VALUE|\\d+)\\b");
     private static final int PROMISES = 33;
@@ -32,6 +33,7 @@ public final class SentenceTest {
         test.readTests(tests);
         test.checkEachPromise();
         test.checkEachEdge();
+        test.checkEachWord();
         CHECK.end();
     }
 
@@ -65,9 +67,12 @@ public final class SentenceTest {
         }
         CHECK.promise("tests told by sentences");
         for (Path file : files) {
-            Matcher told = TOLD.matcher(Files.readString(file));
-            while (told.find()) {
+            String text = Files.readString(file);
+            for (Matcher told = TOLD.matcher(text); told.find();) {
                 hold(file.getFileName() + ", " + told.group(1), told.group(1), wordsOf(told.group(2)));
+            }
+            for (Matcher signed = SIGNED.matcher(text); signed.find();) {
+                hold(file.getFileName() + ", " + signed.group(1), signed.group(1), "`" + signed.group(2) + "`:");
             }
         }
     }
@@ -108,6 +113,21 @@ public final class SentenceTest {
                 boolean isHeld = held.get(part.getKey()).get(edge.start());
                 String near = part.getValue().substring(Math.max(0, edge.start() - 30), edge.end());
                 CHECK.due(part.getKey() + ": '.." + near + "' is in a sentence of a test", isHeld ? 1 : 0, 1);
+            }
+        }
+    }
+
+    private void checkEachWord() {
+        CHECK.promise("each word");
+        for (Map.Entry<String, String> part : document.entrySet()) {
+            BitSet words = held.get(part.getKey());
+            int at = words.nextClearBit(0);
+            while (at < part.getValue().length()) {
+                int end = words.nextSetBit(at);
+                String left = part.getValue().substring(at, end < 0 ? part.getValue().length() : end);
+                boolean isWord = left.chars().anyMatch(Character::isLetterOrDigit);
+                CHECK.due(part.getKey() + ": '" + left + "' is in a sentence of a test", isWord ? 0 : 1, 1);
+                at = end < 0 ? part.getValue().length() : words.nextClearBit(end);
             }
         }
     }

@@ -33,6 +33,7 @@ public final class ThingEdgeTest {
         fitsDigits();
         fitsZeroAhead();
         fitsTrip();
+        fitsSpan();
         fitsSeveralTrips();
         joinedNumbers();
         joinedEachOther();
@@ -411,6 +412,18 @@ public final class ThingEdgeTest {
         checkFits(far, UNKNOWN, 0, 0, 1);
         checkFits(far, UNKNOWN, 6, 6, 1);
         checkFits(far, UNKNOWN, 7, 9, 0);
+    }
+
+    private static void fitsSpan() {
+        CHECK.sentence("Terms", "the span of MINUTES in which it was lost");
+        // Both of its ends are of the span; the trip is in the minutes 10 .. 19.
+        Run run = runWithTrip().passTo(30).make("found(0, 0)");
+        checkFits(run, UNKNOWN, 8, 9, 0);
+        checkFits(run, UNKNOWN, 8, 10, 1);
+        checkFits(run, UNKNOWN, 19, 21, 1);
+        checkFits(run, UNKNOWN, 20, 21, 0);
+        // What is told is the thing's own: the same span may be of several, and another one changes none.
+        run.due("fits(0)", 0).due("fits(1)", 1).due("fits(2)", 1).due("fits(3)", 0);
     }
 
     private static void fitsSeveralTrips() {
